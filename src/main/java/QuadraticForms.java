@@ -21,7 +21,7 @@ public final class QuadraticForms {
     private static final int MOST_N = 500;
     // A reduced form that gives n has x x and y y at most 4 n / 3, so below 26 * 26.
     private static final int REACH = 25;
-    // Far above the first number that any product needs (the tests go through
+    // Far above 133, the greatest e that any product needs (the tests go through
     // all of them), and small enough that no square of a middle number overflows.
     private static final int MOST_FIRST = 1000;
     // Euclid's steps and reduction steps on an int stay below 50.
@@ -150,21 +150,21 @@ public final class QuadraticForms {
     }
 
     public int gives(int k, int n) {
-        if (!isClass(k) || !isNumber(n)) {
+        if (!isClass(k) || !isAllowedNumber(n)) {
             return BAD_ARG;
         }
         return countPairs(k, n, false);
     }
 
     public int givesFirst(int k, int n) {
-        if (!isClass(k) || !isNumber(n)) {
+        if (!isClass(k) || !isAllowedNumber(n)) {
             return BAD_ARG;
         }
         return countPairs(k, n, true);
     }
 
     public int all(int n) {
-        if (!isNumber(n)) {
+        if (!isAllowedNumber(n)) {
             return BAD_ARG;
         }
         int sum = 0;
@@ -175,7 +175,7 @@ public final class QuadraticForms {
     }
 
     public int least(int n) {
-        if (!isNumber(n)) {
+        if (!isAllowedNumber(n)) {
             return BAD_ARG;
         }
         for (int k = 0; k < count; k++) {
@@ -190,7 +190,7 @@ public final class QuadraticForms {
         return k >= 0 && k < count;
     }
 
-    private static boolean isNumber(int n) {
+    private static boolean isAllowedNumber(int n) {
         return n >= 1 && n <= MOST_N;
     }
 

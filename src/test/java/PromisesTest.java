@@ -328,7 +328,7 @@ public final class PromisesTest {
     private static void orderAndLimits() {
         QuadraticForms x = new QuadraticForms();
         due.is("17: least(2)", x.least(2), NONE);
-        // The form of -3 gives none of these in such a way (503 and 0), or does (507): the range is looked at first.
+        // The form of -3 would give 507, but none of the others, in such a way.
         due.is("17: least(0)", x.least(0), BAD_ARG);
         due.is("17: least(-1)", x.least(-1), BAD_ARG);
         due.is("17: least(503)", x.least(503), BAD_ARG);
@@ -355,6 +355,10 @@ public final class PromisesTest {
         due.is("reduced(4, 2) after refusals", x.reduced(4, 2), 4);
         due.is("product(1, 1) after refusals", x.product(1, 1), 4);
         due.is("gives(3, 3) after refusals", x.gives(3, 3), 2);
+        due.is("classOf(2, 1) after refusals", x.classOf(2, 1), 2);
+        // (6, 5, 3), then (3, -5, 6), then (3, 1, 4).
+        due.is("classOf(6, 5) after refusals", x.classOf(6, 5), 4);
+        due.is("inverse(3) after refusals", x.inverse(3), 4);
     }
 
     // A greater discriminant leaves nothing behind for the classes of a lesser one.

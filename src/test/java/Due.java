@@ -1,3 +1,6 @@
+import java.util.Arrays;
+import java.util.function.ToIntFunction;
+
 /** Counts and prints the answers that are not as due. */
 final class Due {
     static final int BAD_ARG = -1000000;
@@ -6,6 +9,7 @@ final class Due {
         1000000, Integer.MAX_VALUE - 1, Integer.MAX_VALUE};
 
     private final String test;
+    private String sentence = "";
     private int asked = 0;
     private int wrong = 0;
 
@@ -13,11 +17,30 @@ final class Due {
         this.test = test;
     }
 
+    /** The sentence of the document that the next answers belong to. */
+    void sentence(String promise, String words) {
+        sentence = promise + " '" + words + "': ";
+    }
+
     void is(String call, long got, long want) {
         asked++;
         if (got != want) {
             wrong++;
-            System.out.println(test + ": " + call + " answered " + got + ", due is " + want);
+            System.out.println(test + ": " + sentence + call + " answered " + got + ", due is " + want);
+        }
+    }
+
+    /** The call answers this code, and all other answers stay what they were. */
+    void refused(String told, int start, int code, ToIntFunction<QuadraticForms> call) {
+        QuadraticForms x = Starts.make(start);
+        is(told + Starts.name(start), call.applyAsInt(x), code);
+        boolean same = Arrays.equals(Snapshot.of(x), Starts.untouched(start));
+        is(told + Starts.name(start) + " changed something:", same ? 0 : 1, 0);
+    }
+
+    void badArg(String told, ToIntFunction<QuadraticForms> call) {
+        for (int start : Starts.ALL) {
+            refused(told, start, BAD_ARG, call);
         }
     }
 

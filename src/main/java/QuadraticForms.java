@@ -21,8 +21,10 @@ public final class QuadraticForms {
     private static final int MOST_N = 500;
     // A reduced form that gives n has x x and y y at most 4 n / 3, so below 26 * 26.
     private static final int REACH = 25;
-    // Far above 133, the greatest e that any product needs (the tests go through
-    // all of them), and small enough that no square of a middle number overflows.
+    // Far above the 133 that the hardest product needs: every reduced form gives a
+    // number without a common divisor with an a up to 11 at one of (1, 0), (0, 1),
+    // (1, 1), (1, -1), (1, 2), (1, -2), (2, 1), (-2, 1), (3, 1), so one up to 403.
+    // Low enough that no square of a middle number overflows.
     private static final int MOST_FIRST = 1000;
     // Euclid's steps and reduction steps on an int stay below 50.
     private static final int MOST_STEPS = 1000;

@@ -188,10 +188,8 @@ public final class OracleTest {
         int down = 0;
         int order = 0;
         for (int e = 0; e <= MOST; e++) {
-            if (e <= 40 || e >= MOST - 3) {
-                is("power(" + i + ", " + e + ")", forms().power(i, e), up);
-                is("power(" + i + ", -" + e + ")", forms().power(i, -e), down);
-            }
+            is("power(" + i + ", " + e + ")", forms().power(i, e), up);
+            is("power(" + i + ", -" + e + ")", forms().power(i, -e), down);
             up = products[up][i];
             down = products[down][inverse];
             order = order == 0 && up == 0 ? e + 1 : order;
@@ -208,9 +206,7 @@ public final class OracleTest {
                 reached[i] = products[reached[i]][i];
                 roots += reached[i] == 0 ? 1 : 0;
             }
-            if (m <= 40 || m >= MOST - 3) {
-                is("roots(" + m + ")", forms().roots(m), roots);
-            }
+            is("roots(" + m + ")", forms().roots(m), roots);
         }
         boolean[] square = new boolean[count];
         int squares = 0;
